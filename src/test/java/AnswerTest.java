@@ -32,7 +32,7 @@ public final class AnswerTest {
         CHECK.throwing("n! answer", IllegalStateException.class, () -> x.answer(0));
         CHECK.throwing("n! answer", IllegalStateException.class, () -> x.answer(-1));
         CHECK.equal("n! run again", x.run(), -1);
-        Examiner.examine(CHECK, x, "n!", new long[] {1, 1}, new long[] {1});
+        Examiner.examine(CHECK, "n!", new long[] {1, 1}, new long[] {1});
         x.put(true, 1, 0);
         CHECK.equal("run after n!", x.run(), 1);
     }

@@ -50,7 +50,7 @@ public final class ClosedTest {
         CHECK.equal("value of the least", x.value(Long.MIN_VALUE), Plain.mod(Long.MIN_VALUE));
         CHECK.equal("value of the greatest", x.value(Long.MAX_VALUE), Plain.mod(Long.MAX_VALUE));
         ClosedSums poles = Plain.sums(Plain.ofRoots(3, -4), Plain.ofRoots(1, -2));
-        Examiner.examine(CHECK, poles, "poles", Plain.ofRoots(3, -4), Plain.ofRoots(1, -2));
+        Examiner.examine(CHECK, "poles", Plain.ofRoots(3, -4), Plain.ofRoots(1, -2));
         for (long round = -2; round <= 2; round++) {
             CHECK.equal("pole at -2", poles.value(-2 + 32003 * round), -1);
             CHECK.equal("pole at -3", poles.value(-3 + 32003 * round), -1);

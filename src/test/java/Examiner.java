@@ -16,21 +16,17 @@ final class Examiner {
     private long[] c = {1};
     private int degree = -1;
 
-    private Examiner(Check check, ClosedSums x, String name, long[] ratioTop, long[] ratioBottom) {
+    private Examiner(Check check, String name, long[] ratioTop, long[] ratioBottom) {
         this.check = check;
-        this.x = x;
+        this.x = Plain.sums(ratioTop, ratioBottom);
         this.name = name;
         this.ratioTop = Plain.trim(ratioTop);
         this.ratioBottom = Plain.trim(ratioBottom);
     }
 
-    /** Gives back the degree of the answer that is due. */
+    /** Makes some 450 calls on a new object; gives back the degree of the answer that is due. */
     static int examine(Check check, String name, long[] top, long[] bottom) {
-        return examine(check, Plain.sums(top, bottom), name, top, bottom);
-    }
-
-    static int examine(Check check, ClosedSums x, String name, long[] top, long[] bottom) {
-        Examiner e = new Examiner(check, x, name, top, bottom);
+        Examiner e = new Examiner(check, name, top, bottom);
         e.askSplit();
         e.askIdentities();
         e.askAnswer();
@@ -39,6 +35,38 @@ final class Examiner {
         }
         e.askTerms();
         return e.degree;
+    }
+
+    /**
+     * Few calls, so that an object can be asked after many changes within its 512 calls: it
+     * answers like a new object with that ratio, which is then examined by itself.
+     */
+    static void likeNew(Check check, ClosedSums x, String name, long[] top, long[] bottom) {
+        ClosedSums fresh = Plain.sums(top, bottom);
+        for (int h = 0; h <= 8; h++) {
+            check.equal(name + " found like new " + h, x.found(h), fresh.found(h));
+        }
+        for (int which = 0; which < 3; which++) {
+            check.equal(name + " degree like new", x.degree(which), fresh.degree(which));
+            check.equal(name + " split like new", x.split(which, 0), fresh.split(which, 0));
+        }
+        int degree = fresh.run();
+        check.equal(name + " run like new", x.run(), degree);
+        if (degree >= 0) {
+            check.equal(name + " answer like new", x.answer(degree), fresh.answer(degree));
+            check.equal(name + " top like new", x.closed(true, 0), fresh.closed(true, 0));
+            check.equal(name + " bottom like new", x.closed(false, 0), fresh.closed(false, 0));
+            check.equal(name + " value like new", x.value(77), fresh.value(77));
+        } else {
+            check.throwing(name + " no answer like new", IllegalStateException.class, () -> x.answer(0));
+        }
+        if (Plain.at(bottom, 0) != 0) {
+            check.equal(name + " term like new", x.term(1), fresh.term(1));
+            check.equal(name + " sum like new", x.sum(2), fresh.sum(2));
+        } else {
+            check.throwing(name + " no term like new", IllegalStateException.class, () -> x.term(1));
+        }
+        examine(check, name, top, bottom);
     }
 
     private void askSplit() {
@@ -120,7 +148,7 @@ final class Examiner {
         }
     }
 
-    boolean free(int power) {
+    private boolean free(int power) {
         return Plain.rank(system(power + 1, false)) == Plain.rank(system(power, false));
     }
 

@@ -9,7 +9,7 @@ public final class RandomRatiosTest {
         smallNumbers(new Random(2));
         rootsNearEachOther(new Random(3));
         leadsThatCancel(new Random(4));
-        oneObjectForAll(new Random(5));
+        severalOnOneObject(new Random(5));
         CHECK.end();
     }
 
@@ -77,14 +77,18 @@ public final class RandomRatiosTest {
         }
     }
 
-    private static void oneObjectForAll(Random random) {
+    /** Ten ratios on one object stay within its 512 calls. */
+    private static void severalOnOneObject(Random random) {
         ClosedSums x = new ClosedSums();
         for (int i = 0; i < 60; i++) {
+            if (i % 10 == 0) {
+                x = new ClosedSums();
+            }
             int count = random.nextInt(5);
             long[] top = Plain.ofRoots(1 + random.nextInt(2), roots(random, count, 9));
             long[] bottom = Plain.ofRoots(1, roots(random, count, 9));
             Plain.fill(x, top, bottom);
-            Examiner.examine(CHECK, x, "one object " + i, top, bottom);
+            Examiner.likeNew(CHECK, x, "one object " + i, top, bottom);
         }
     }
 }

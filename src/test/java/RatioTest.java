@@ -25,7 +25,7 @@ public final class RatioTest {
     private static void aNewObjectHasTheRatioOne() {
         ClosedSums x = new ClosedSums();
         ratioIs("new", x, new long[] {1}, new long[] {1});
-        Examiner.examine(CHECK, x, "new", new long[] {1}, new long[] {1});
+        Examiner.likeNew(CHECK, x, "new", new long[] {1}, new long[] {1});
         CHECK.equal("new run", x.run(), 1);
         CHECK.equal("new term", x.term(60), 1);
         CHECK.equal("new sum", x.sum(60), 60);
@@ -97,9 +97,9 @@ public final class RatioTest {
         long[] top = {4, 4, 1};
         long[] bottom = {0, 0, 1};
         ClosedSums x = Plain.sums(top, bottom);
-        Examiner.examine(CHECK, x, "before shift", top, bottom);
+        Examiner.likeNew(CHECK, x, "before shift", top, bottom);
         x.shift(2);
-        Examiner.examine(CHECK, x, "after shift", Plain.moved(top, 2), Plain.moved(bottom, 2));
+        Examiner.likeNew(CHECK, x, "after shift", Plain.moved(top, 2), Plain.moved(bottom, 2));
     }
 
     private static void clearGoesBackToOne() {
@@ -108,7 +108,7 @@ public final class RatioTest {
         x.term(0);
         x.clear();
         ratioIs("clear", x, new long[] {1}, new long[] {1});
-        Examiner.examine(CHECK, x, "after clear", new long[] {1}, new long[] {1});
+        Examiner.likeNew(CHECK, x, "after clear", new long[] {1}, new long[] {1});
         ClosedSums zero = Plain.sums(new long[] {}, new long[] {});
         zero.clear();
         CHECK.equal("run after clear of 0", zero.run(), 1);
@@ -121,14 +121,14 @@ public final class RatioTest {
         for (long number = 1; number <= 6; number++) {
             long[] top = {number, number % 2};
             Plain.fill(x, top, bottom);
-            Examiner.examine(CHECK, x, "after put of " + number, top, bottom);
+            Examiner.likeNew(CHECK, x, "after put of " + number, top, bottom);
         }
         for (int power = 0; power <= 4; power++) {
             long[] lower = new long[power + 1];
             lower[0] = 3;
             lower[power] = 1;
             Plain.fill(x, new long[] {3}, lower);
-            Examiner.examine(CHECK, x, "bottom with power " + power, new long[] {3}, lower);
+            Examiner.likeNew(CHECK, x, "bottom with power " + power, new long[] {3}, lower);
         }
     }
 }

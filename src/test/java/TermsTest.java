@@ -35,7 +35,7 @@ public final class TermsTest {
             CHECK.equal("term " + n, down.term(n), terms[n]);
             CHECK.equal("sum " + n, down.sum(n), up.sum(n));
         }
-        Examiner.examine(CHECK, up, "terms", new long[] {3, 1, 4}, new long[] {2, 7, 1});
+        Examiner.examine(CHECK, "terms", new long[] {3, 1, 4}, new long[] {2, 7, 1});
         ClosedSums fresh = Plain.sums(new long[] {3, 1, 4}, new long[] {2, 7, 1});
         CHECK.equal("sum first", fresh.sum(60), up.sum(60));
     }
@@ -51,7 +51,7 @@ public final class TermsTest {
             }
             CHECK.holds("term at the end", end > 60 || x.term(end) >= 0);
             CHECK.holds("sum behind the end", end > 59 || x.sum(end + 1) >= 0);
-            Examiner.examine(CHECK, x, "end at " + end, top, bottom);
+            Examiner.examine(CHECK, "end at " + end, top, bottom);
         }
     }
 
@@ -65,7 +65,7 @@ public final class TermsTest {
         CHECK.throwing("term 11", IllegalStateException.class, () -> x.term(11));
         CHECK.equal("sum 11", x.sum(11), x.sum(4));
         CHECK.throwing("sum 12", IllegalStateException.class, () -> x.sum(12));
-        Examiner.examine(CHECK, x, "0 and an end", top, bottom);
+        Examiner.examine(CHECK, "0 and an end", top, bottom);
     }
 
     private static void zeroSides() {
