@@ -1,3 +1,5 @@
+import java.util.List;
+
 /** Counts and prints the answers that are not as due. */
 final class Check {
     /** A call that may throw. */
@@ -18,6 +20,14 @@ final class Check {
         if (!held) {
             wrong++;
             System.out.println(what + " does not hold");
+        }
+    }
+
+    /** Prints only the lines that differ. */
+    void same(String what, List<String> got, List<String> due) {
+        holds(what + ": as many lines", got.size() == due.size());
+        for (int i = 0; i < got.size() && i < due.size(); i++) {
+            holds(what + ": " + got.get(i) + ", due is " + due.get(i), got.get(i).equals(due.get(i)));
         }
     }
 

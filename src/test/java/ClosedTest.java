@@ -7,8 +7,6 @@ public final class ClosedTest {
         lowestTerms();
         valuesAtAnyPlace();
         sumsByTheValue();
-        zeroSidesAndNoAnswer();
-        powersThatItDoesNotHave();
         CHECK.end();
     }
 
@@ -64,26 +62,6 @@ public final class ClosedTest {
         for (int n = 0; n <= 60; n++) {
             long due = Plain.mod((long) x.value(n) * x.term(n) - (long) x.value(0) * x.term(0));
             CHECK.equal("sum by value " + n, x.sum(n), due);
-        }
-    }
-
-    private static void zeroSidesAndNoAnswer() {
-        long[][][] ratios = {{{}, {1, 1}}, {{1, 1}, {}}, {{}, {}}, {{1, 1}, {1}}, {{0, 0, 0, 0, 1}, {1, 1}}};
-        for (long[][] ratio : ratios) {
-            ClosedSums x = Plain.sums(ratio[0], ratio[1]);
-            for (int power : new int[] {0, 1, -1, 99}) {
-                CHECK.throwing("closed top", IllegalStateException.class, () -> x.closed(true, power));
-                CHECK.throwing("closed bottom", IllegalStateException.class, () -> x.closed(false, power));
-                CHECK.throwing("value", IllegalStateException.class, () -> x.value(power));
-            }
-        }
-    }
-
-    private static void powersThatItDoesNotHave() {
-        ClosedSums x = new ClosedSums();
-        for (int power : new int[] {-1, 2, 24, 32, 33, Integer.MIN_VALUE, Integer.MAX_VALUE}) {
-            CHECK.equal("closed top " + power, x.closed(true, power), 0);
-            CHECK.equal("closed bottom " + power, x.closed(false, power), 0);
         }
     }
 }

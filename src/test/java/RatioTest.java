@@ -5,8 +5,6 @@ public final class RatioTest {
     public static void main(String[] args) {
         aNewObjectHasTheRatioOne();
         putTellsWhetherTheNumberIsAnother();
-        putTakesNumbersModulo();
-        wrongPowers();
         shiftMovesBothSides();
         shiftTakesAnyDistance();
         shiftMovesTermsAndSplit();
@@ -40,33 +38,6 @@ public final class RatioTest {
         CHECK.holds("put of 0 where 0 is", !x.put(false, 3, 0));
         CHECK.holds("put of 0 where 9 is", x.put(false, 4, 0));
         ratioIs("put", x, new long[] {7}, new long[] {1});
-    }
-
-    private static void putTakesNumbersModulo() {
-        ClosedSums x = new ClosedSums();
-        CHECK.holds("put of 32004", !x.put(true, 0, 32004));
-        CHECK.holds("put of -32002", !x.put(false, 0, -32002));
-        CHECK.holds("put of -1", x.put(true, 1, -1));
-        CHECK.equal("-1", x.at(true, 1), 32002);
-        x.put(true, 2, Long.MIN_VALUE);
-        CHECK.equal("the least long", x.at(true, 2), Math.floorMod(Long.MIN_VALUE, 32003L));
-        x.put(true, 2, Long.MAX_VALUE);
-        CHECK.equal("the greatest long", x.at(true, 2), Math.floorMod(Long.MAX_VALUE, 32003L));
-        x.put(true, 3, 32003);
-        CHECK.equal("32003", x.at(true, 3), 0);
-        x.put(true, 3, 4294967296L);
-        CHECK.equal("2^32", x.at(true, 3), Math.floorMod(4294967296L, 32003L));
-    }
-
-    private static void wrongPowers() {
-        ClosedSums x = new ClosedSums();
-        for (int power : new int[] {-1, 5, Integer.MIN_VALUE, Integer.MAX_VALUE}) {
-            for (boolean top : new boolean[] {true, false}) {
-                CHECK.throwing("put at " + power, IndexOutOfBoundsException.class, () -> x.put(top, power, 3));
-                CHECK.throwing("at " + power, IndexOutOfBoundsException.class, () -> x.at(top, power));
-            }
-        }
-        ratioIs("after wrong powers", x, new long[] {1}, new long[] {1});
     }
 
     private static void shiftMovesBothSides() {

@@ -11,8 +11,6 @@ public final class SplitTest {
         leadsStay();
         factorsWithoutRoots();
         theLongestExtra();
-        zeroSides();
-        wrongArguments();
         CHECK.end();
     }
 
@@ -113,36 +111,5 @@ public final class SplitTest {
         CHECK.equal("longest beyond", x.split(2, 33), 0);
         Examiner.examine(CHECK, "longest", top, bottom);
         Examiner.examine(CHECK, "longest of one root", Plain.ofRoots(1, 5, 5, 5, 5), Plain.ofRoots(1, 13, 13, 13, 13));
-    }
-
-    private static void zeroSides() {
-        long[][][] ratios = {{{}, {1, 1}}, {{1, 1}, {}}, {{}, {}}};
-        for (long[][] ratio : ratios) {
-            ClosedSums x = Plain.sums(ratio[0], ratio[1]);
-            for (int argument : new int[] {0, 2, 9, -1}) {
-                CHECK.throwing("found with 0", IllegalStateException.class, () -> x.found(argument));
-                CHECK.throwing("degree with 0", IllegalStateException.class, () -> x.degree(argument));
-                CHECK.throwing("split with 0", IllegalStateException.class, () -> x.split(argument, 0));
-            }
-            x.put(true, 0, 2);
-            x.put(false, 0, 2);
-            CHECK.equal("found after 0", x.found(8), 0);
-        }
-    }
-
-    private static void wrongArguments() {
-        ClosedSums x = new ClosedSums();
-        for (int argument : new int[] {-1, 9, Integer.MIN_VALUE, Integer.MAX_VALUE}) {
-            CHECK.throwing("found " + argument, IllegalArgumentException.class, () -> x.found(argument));
-        }
-        for (int argument : new int[] {-1, 3, Integer.MIN_VALUE, Integer.MAX_VALUE}) {
-            CHECK.throwing("degree " + argument, IllegalArgumentException.class, () -> x.degree(argument));
-            CHECK.throwing("split " + argument, IllegalArgumentException.class, () -> x.split(argument, 0));
-        }
-        for (int power : new int[] {-1, 1, 32, 33, 64, Integer.MIN_VALUE, Integer.MAX_VALUE}) {
-            for (int which = 0; which < 3; which++) {
-                CHECK.equal("split at " + power, x.split(which, power), 0);
-            }
-        }
     }
 }

@@ -7,8 +7,6 @@ public final class TermsTest {
         inAnyOrder();
         endsAtEveryPlace();
         zeroTopGoesOn();
-        zeroSides();
-        wrongPlaces();
         CHECK.end();
     }
 
@@ -66,34 +64,5 @@ public final class TermsTest {
         CHECK.equal("sum 11", x.sum(11), x.sum(4));
         CHECK.throwing("sum 12", IllegalStateException.class, () -> x.sum(12));
         Examiner.examine(CHECK, "0 and an end", top, bottom);
-    }
-
-    private static void zeroSides() {
-        ClosedSums top = Plain.sums(new long[] {}, new long[] {1});
-        CHECK.equal("top 0, term 0", top.term(0), 1);
-        CHECK.equal("top 0, term 1", top.term(1), 0);
-        CHECK.equal("top 0, term 60", top.term(60), 0);
-        CHECK.equal("top 0, sum 60", top.sum(60), 1);
-        ClosedSums bottom = Plain.sums(new long[] {1}, new long[] {});
-        CHECK.equal("bottom 0, term 0", bottom.term(0), 1);
-        CHECK.throwing("bottom 0, term 1", IllegalStateException.class, () -> bottom.term(1));
-        CHECK.equal("bottom 0, sum 0", bottom.sum(0), 0);
-        CHECK.equal("bottom 0, sum 1", bottom.sum(1), 1);
-        CHECK.throwing("bottom 0, sum 2", IllegalStateException.class, () -> bottom.sum(2));
-        bottom.put(false, 0, 2);
-        CHECK.equal("bottom 2, term 1", bottom.term(1), Plain.inverse(2));
-    }
-
-    private static void wrongPlaces() {
-        ClosedSums fine = new ClosedSums();
-        ClosedSums ended = Plain.sums(new long[] {1}, new long[] {});
-        for (ClosedSums x : new ClosedSums[] {fine, ended}) {
-            for (int n : new int[] {-1, 61, 62, Integer.MIN_VALUE, Integer.MAX_VALUE}) {
-                CHECK.throwing("term " + n, IndexOutOfBoundsException.class, () -> x.term(n));
-                CHECK.throwing("sum " + n, IndexOutOfBoundsException.class, () -> x.sum(n));
-            }
-        }
-        CHECK.equal("term 60", fine.term(60), 1);
-        CHECK.equal("sum 60", fine.sum(60), 60);
     }
 }
