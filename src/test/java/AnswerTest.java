@@ -9,6 +9,7 @@ public final class AnswerTest {
         theHighestDegreeWithAFactor();
         aLateAnswerToASmallRightSide();
         freePowers();
+        nothingIsLeftOfAnEarlierAnswer();
         CHECK.end();
     }
 
@@ -79,6 +80,22 @@ public final class AnswerTest {
             int degree = Examiner.examine(CHECK, "free " + free, top, bottom);
             CHECK.equal("degree with free " + free, degree, one[1] + one[2]);
             CHECK.equal("answer at free " + free, Plain.sums(top, bottom).answer(free), 0);
+        }
+    }
+
+    /** A late answer mixes many powers; what comes after it on the same object must not. */
+    private static void nothingIsLeftOfAnEarlierAnswer() {
+        ClosedSums x = new ClosedSums();
+        for (int late : new int[] {5, 20, 12, 1}) {
+            Plain.fill(x, new long[] {7, 100, 1}, Plain.moved(new long[] {11, 100 + late, 1}, 1));
+            CHECK.equal("late " + late, x.run(), late);
+            long[] top = Plain.ofRoots(1, 1000, 2000, 3000);
+            long[] bottom = Plain.ofRoots(1, 1008, 2008, 3003);
+            Plain.fill(x, top, bottom);
+            ClosedSums fresh = Plain.sums(top, bottom);
+            for (int power = 0; power <= 20; power++) {
+                CHECK.equal("answer after late " + late, x.answer(power), fresh.answer(power));
+            }
         }
     }
 }
