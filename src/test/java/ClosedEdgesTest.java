@@ -12,6 +12,7 @@ public final class ClosedEdgesTest {
         aPartCancels();
         theBottomIsMonic();
         theHighestTop();
+        theHighestTopOfThirdPowers();
         theHighestBottom();
         closedPowersOutside();
         closedIsRefused();
@@ -64,20 +65,47 @@ public final class ClosedEdgesTest {
     }
 
     /**
+     * b with n - 1 in place of n is given. At the power 20 the highest powers cancel, and the
+     * numbers were sought so that a number is all that is left: then c is 1 and x of degree 20.
+     */
+    private static void theHighestTop() {
+        topEndsAt(24, new long[] {3383, 1, 0, 0, 1}, new long[] {14955, 0, 0, 20, 1});
+        topEndsAt(24, new long[] {5400, 2, 0, 0, 1}, new long[] {16001, 0, 0, 20, 1});
+    }
+
+    /**
      * In m = n + 1/2, b with n - 1 in place of n is -a with -m in place of m: so an even power of
      * m comes to even powers of m alone. At 20 the highest ones cancel, and a number is left.
      */
-    private static void theHighestTop() {
+    private static void theHighestTopOfThirdPowers() {
         long half = Plain.inverse(2);
-        long[] a = Plain.moved(new long[] {5, 3, -10, 1}, half);
-        long[] bottomBefore = Plain.moved(new long[] {-5, 3, 10, 1}, half);
-        int degree = Examiner.examine(CHECK, "highest top", a, Plain.moved(bottomBefore, 1));
-        ClosedSums x = Plain.sums(a, Plain.moved(bottomBefore, 1));
-        CHECK.equal("highest top, degree", degree, 20);
-        CHECK.equal("highest top, c", x.degree(2), 0);
-        CHECK.holds("highest top at 23", x.closed(true, 23) != 0);
-        CHECK.equal("highest top at 24", x.closed(true, 24), 0);
-        CHECK.equal("highest top's bottom", x.closed(false, 0), 1);
+        topEndsAt(23, Plain.moved(new long[] {5, 3, -10, 1}, half), Plain.moved(new long[] {-5, 3, 10, 1}, half));
+    }
+
+    private static void topEndsAt(int highest, long[] a, long[] bottomBefore) {
+        String what = "top of degree " + highest;
+        long[] b = Plain.moved(bottomBefore, 1);
+        CHECK.equal(what + ", degree", Examiner.examine(CHECK, what, a, b), 20);
+        ClosedSums x = Plain.sums(a, b);
+        CHECK.equal(what + ", c", x.degree(2), 0);
+        CHECK.equal(what + " at its highest", x.closed(true, highest), x.answer(20));
+        CHECK.holds(what + " isn't 0 there", x.closed(true, highest) != 0);
+        for (int power = highest + 1; power <= 33; power++) {
+            CHECK.equal(what + " at " + power, x.closed(true, power), 0);
+        }
+        CHECK.equal(what + ", bottom", x.closed(false, 0), 1);
+        long[] top = topOf(x);
+        for (long n : new long[] {0, 1, 60, -1, 16001, 32002, Long.MIN_VALUE, Long.MAX_VALUE}) {
+            CHECK.equal(what + ", value at " + n, x.value(n), Plain.at(top, n));
+        }
+    }
+
+    private static long[] topOf(ClosedSums x) {
+        long[] top = new long[25];
+        for (int power = 0; power < top.length; power++) {
+            top[power] = x.closed(true, power);
+        }
+        return top;
     }
 
     private static void theHighestBottom() {
